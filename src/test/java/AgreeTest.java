@@ -34,7 +34,7 @@ public final class AgreeTest {
     long calls = 0;
     for (int seed = 1; seed <= runs; seed++) {
       AgreeTest one = new AgreeTest(seed);
-      String fault = one.play();
+      String fault = seed % 10 == 0 ? one.wearOut() : one.play();
       calls += one.asked.size();
       if (fault != null) {
         System.out.println("run " + seed + ", last calls:");
@@ -101,6 +101,23 @@ public final class AgreeTest {
     }
     while (fault == null && asked.size() < CALLS) {
       fault = look();
+    }
+    return fault;
+  }
+
+  /** One pot, frail cocoons, long runs: rows of cocoons go round more often than they have cells. */
+  private String wearOut() {
+    String fault = ask("pot", 100, 1 + upTo(2));
+    for (int l = 0; fault == null && l < 3; l++) {
+      fault = ask("lot", 60, random.nextInt(), 40, 200, 200);
+      fault = fault != null ? fault : ask("fill", 0, l, 0, 60);
+    }
+    while (fault == null && asked.size() < CALLS) {
+      switch (upTo(6)) {
+        case 0: fault = typeProgram(0, pick("cast;drop;cast;", "cast;cast;cast;cast;drop;", "cast;cast;cast;cast;cast;cast;", "cast;cast;drop;drop;")); break;
+        case 1: case 2: fault = ask("run", 0, 1 + upTo(upTo(2) == 0 ? 5 : 40)); break;
+        default: fault = ask("in", 0, upTo(3), upTo(upTo(2) == 0 ? 3 : 200)); break;
+      }
     }
     return fault;
   }

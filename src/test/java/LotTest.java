@@ -3,6 +3,8 @@ public final class LotTest {
   private static final Check CHECK = new Check();
   private static final int FARTHEST = Integer.MAX_VALUE;
   private static final int LEAST = Integer.MIN_VALUE;
+  /** Seed of a lot(1, .., 30, 40, 10) whose cocoon would first break at the place behind its last. */
+  private static final int BREAKS_BEYOND = 1250;
 
   public static void main(String[] args) {
     newObject();
@@ -44,8 +46,12 @@ public final class LotTest {
     CHECK.due("greatest lot", x.lot(60, FARTHEST, 60, 200, 200), 1);
     CHECK.due("last of the greatest", x.cocoon(1, 59, 1), 0);
     for (int i = 2; i < 10; i++) {
-      CHECK.due("lot " + i, x.lot(2, i, 30, 50, 10), i);
+      CHECK.due("lot " + i, x.lot(60, i, 30, 50, 10), i);
     }
+    CHECK.due("the very last COCOON", x.cocoon(9, 59, 1), 0);
+    CHECK.due("one behind it", x.cocoon(9, 60, 1), SilkMill.NONE);
+    CHECK.due("a LOT behind it", x.cocoon(10, 0, 1), SilkMill.NONE);
+    CHECK.due("a LOT behind it", x.test(10, 0, 0), SilkMill.NONE);
     CHECK.due("an eleventh lot", x.lot(2, 1, 30, 50, 10), SilkMill.NONE);
     CHECK.due("count(0)", x.count(0), 10);
   }
@@ -169,5 +175,9 @@ public final class LotTest {
     CHECK.due("one that BREAKS at its last place alone", x.test(1, 0, 1), 1);
     x.lot(60, 9, 30, 40, 0);
     CHECK.due("FRAIL 0 never breaks", x.test(2, 4, 60), 0);
+    x.lot(1, 85, 30, 40, 10);
+    CHECK.due("one that BREAKS at its first place alone", x.test(3, 0, 1), 1);
+    x.lot(1, BREAKS_BEYOND, 30, 40, 10);
+    CHECK.due("one that would BREAK just beyond its end", x.test(4, 0, 1), 0);
   }
 }

@@ -45,6 +45,9 @@ public final class PotTest {
       CHECK.due("a new pot's " + what, x.about(3, what), 0);
     }
     CHECK.due("a new pot's TARGET", x.about(3, 10), 100);
+    CHECK.due("no pot behind the last", x.about(4, 10), SilkMill.NONE);
+    CHECK.due("no pot behind the last", x.run(4, 1), SilkMill.NONE);
+    CHECK.dueThrow("no pot behind the last", () -> x.in(4, 0, 0), NoSuchElementException.class);
   }
 
   private static void targets() {
@@ -84,9 +87,14 @@ public final class PotTest {
     for (int i = 0; i < 4; i++) {
       CHECK.due("in the BASKET " + i, x.in(0, 0, i), due[i]);
     }
-    CHECK.due("sixty", x.fill(0, 1, 0, 60), true);
-    CHECK.due("all there", x.about(0, 0), 64);
-    CHECK.due("the last", x.in(0, 0, 63), 159);
+    CHECK.due("the last of sixty", x.fill(0, 1, 59, 1), true);
+    CHECK.due("beyond it", x.fill(0, 1, 58, 3), false);
+    CHECK.due("sixty, of which it is one", x.fill(0, 1, 0, 60), false);
+    x.lot(60, 8, 30, 50, 0);
+    CHECK.due("sixty", x.fill(0, 2, 0, 60), true);
+    CHECK.due("all there", x.about(0, 0), 65);
+    CHECK.due("the last of one LOT", x.in(0, 0, 4), 159);
+    CHECK.due("the last", x.in(0, 0, 64), 259);
   }
 
   private static void runs() {
@@ -166,6 +174,7 @@ public final class PotTest {
     CHECK.due("one metre", x.run(0, 5), 1);
     CHECK.due("SEARCH started anew", x.about(0, 5), 0);
     CHECK.due("the first one is found", x.in(0, 0, 0), 100);
+    CHECK.due("its STAND", x.cocoon(1, 0, 1), 1);
     CHECK.due("the other is LOST", x.in(0, 2, 0), 0);
     x.run(0, 2);
     CHECK.due("SEARCH", x.about(0, 5), 2);
@@ -207,6 +216,8 @@ public final class PotTest {
     x.run(0, 1);
     rows(x, 1, 101, 100);
     rows(x, 2, 200, 0, 300);
+    CHECK.dueThrow("where an END was", () -> x.in(0, 1, 2), NoSuchElementException.class);
+    CHECK.dueThrow("where one of the BASKET was", () -> x.in(0, 0, 0), NoSuchElementException.class);
   }
 
   private static void rows(SilkMill x, int row, int... due) {

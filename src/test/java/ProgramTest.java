@@ -125,6 +125,10 @@ public final class ProgramTest {
     ask("if ends<3andbasket>2:cast;", -9, 9);
     ask("if end<3:cast;", -9, 3);
     ask("if endss<3:cast;", -9, 3);
+    ask("xast;", -9, 0);
+    ask("casx;", -9, 0);
+    ask("cutz;", -9, 0);
+    ask("cuta;", -9, 0);
     ask("cut;cast;x;", -9, 9);
   }
 
@@ -197,6 +201,8 @@ public final class ProgramTest {
     CHECK.due("each has its own", x.about(1, 9), 1);
     CHECK.due("a good one for the first", Check.program(x, 0, "cast;cast;cut;"), 3);
     CHECK.due("the other's stays", x.about(1, 9), 1);
+    CHECK.due("a fault again", Check.program(x, 0, "cast"), -9);
+    CHECK.due("its place", x.place(), 4);
     CHECK.due("an empty one", x.program(0), 0);
     CHECK.due("no RULES", x.about(0, 9), 0);
     CHECK.due("without FAULT", x.place(), SilkMill.NONE);

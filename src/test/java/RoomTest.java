@@ -11,6 +11,7 @@ public final class RoomTest {
     int calls = drawAll();
     long made = allocated() - before;
     CHECK.due("a run has 512 calls", calls, 512);
+    System.out.println(made + " bytes made by drawing all");
     CHECK.due("bytes made by drawing all: " + made, made < MOST_BYTES, true);
     mixAndGrade(flat());
     SilkMill x = flat();

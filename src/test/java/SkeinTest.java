@@ -9,6 +9,7 @@ public final class SkeinTest {
   public static void main(String[] args) {
     piecesAndMetres();
     piecesOverABreak();
+    manyPieces();
     slips();
     aboutASkein();
     wrongNumbers();
@@ -66,6 +67,40 @@ public final class SkeinTest {
     y.run(0, 8);
     y.cut(0);
     pieces(y, 0, new int[][] {{0, 0, 0, 3, 0}, {1, 0, 0, 8, 0}, {0, 0, 5, 3, 3}});
+  }
+
+  /** Of most frail cocoons: all pieces together are just what was drawn, metre by metre and place by place. */
+  private static void manyPieces() {
+    SilkMill x = new SilkMill();
+    x.lot(60, 3, 40, 100, 200);
+    x.pot(64, 2);
+    x.fill(0, 0, 0, 60);
+    rules(x, "cast;cast;cast;drop;cast;", 200);
+    x.cut(0);
+    int metres = x.skein(0, 2);
+    int pieces = x.skein(0, 7);
+    CHECK.due("many pieces", pieces > 130, true);
+    int[] fineness = new int[metres];
+    int[] ends = new int[metres];
+    int[] drawn = new int[60];
+    for (int i = 0; i < pieces; i++) {
+      int worm = x.piece(0, i, 1);
+      int place = x.piece(0, i, 4);
+      CHECK.due("it goes on where it was", place, drawn[worm]);
+      CHECK.due("in order", i == 0 || x.piece(0, i, 2) >= x.piece(0, i - 1, 2), true);
+      for (int j = 0; j < x.piece(0, i, 3); j++) {
+        fineness[x.piece(0, i, 2) + j] += x.fineness(0, worm, place + j);
+        ends[x.piece(0, i, 2) + j]++;
+      }
+      drawn[worm] += x.piece(0, i, 3);
+    }
+    for (int m = 0; m < metres; m++) {
+      CHECK.due("FINENESS of metre " + m, x.metre(0, m, 0), fineness[m]);
+      CHECK.due("ENDS of metre " + m, x.metre(0, m, 1), ends[m]);
+    }
+    for (int i = 0; i < 60; i++) {
+      CHECK.due("drawn of " + i, x.cocoon(0, i, 2), drawn[i]);
+    }
   }
 
   private static void pieces(SilkMill x, int k, int[][] due) {
@@ -199,6 +234,7 @@ public final class SkeinTest {
         }
       }
     }
+    CHECK.due("no more than five", x.grade(0, 1, 6), SilkMill.NONE);
     SilkMill y = flat(1, 64);
     CHECK.due("the one there is", y.grade(0, LEAST, 1), 0);
     CHECK.due("it", y.drawn(2), 0);
@@ -209,7 +245,7 @@ public final class SkeinTest {
   }
 
   private static void bounds() {
-    int[][] due = {{4, 2, 2}, {5, 5, 0}, {6, 2, 4}, {10, 3, 5}, {19, 1, 18}, {20, 1, 19}, {21, 1, 19}};
+    int[][] due = {{1, 1, 0}, {2, 1, 1}, {6, 5, 1}, {4, 2, 2}, {5, 5, 0}, {6, 2, 4}, {10, 3, 5}, {19, 1, 18}, {20, 1, 19}, {21, 1, 19}};
     for (int[] d : due) {
       SilkMill x = flat(d[0], 64);
       x.grade(0, 7, d[1]);

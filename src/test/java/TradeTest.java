@@ -52,8 +52,12 @@ public final class TradeTest {
       Check.program(y, 0, "cast;");
       y.run(0, 1);
       y.cut(0);
+      y.run(0, 25);
+      y.cut(0);
       CHECK.due("GRADE " + g, y.grade(0, 1, 1), g);
+      CHECK.due("GRADE " + g, y.grade(1, 1, 1), g);
       CHECK.due("PRICE at first", y.skein(0, 10), 64 * first[g] / 100);
+      CHECK.due("PRICE at first", y.skein(1, 10), 16 * first[g]);
       CHECK.due("another", y.price(g, 37), true);
       CHECK.due("PRICE, cut", y.skein(0, 10), 23);
       CHECK.due("of another GRADE", y.price((g + 1) % 4, 500), true);
@@ -188,6 +192,9 @@ public final class TradeTest {
     CHECK.due("far above", x.mix(FARTHEST, 0, 1000, true), SilkMill.NONE);
     CHECK.due("not SOLD", x.skein(0, 9), 0);
     CHECK.due("none yet", x.mixed(0), false);
+    x.price(3, 0);
+    CHECK.due("WEIGHT 0 of what costs nothing", x.mix(0, 0, 1000, true), SilkMill.NONE);
+    x.price(3, 20);
     CHECK.due("no SKEINS", new SilkMill().mix(1, 0, 1000, true), SilkMill.NONE);
     CHECK.due("WEIGHT 1", x.mix(1, 0, 1000, true), 12);
     CHECK.due("SOLD", x.skein(0, 9), 1);
