@@ -3,7 +3,7 @@ import java.lang.management.ManagementFactory;
 /** Nothing is ever given back in the room of a run: the dearest runs must make little. */
 public final class RoomTest {
   private static final Check CHECK = new Check();
-  private static final long MOST_BYTES = 6_000_000;
+  private static final long MOST_BYTES = 2_000_000;
 
   public static void main(String[] args) {
     drawAll();
