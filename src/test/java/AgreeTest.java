@@ -112,7 +112,7 @@ public final class AgreeTest {
       fault = ask("lot", 60, random.nextInt(), 40, 200, 200);
       fault = fault != null ? fault : ask("fill", 0, l, 0, 60);
     }
-    while (fault == null && asked.size() < CALLS) {
+    while (fault == null && asked.size() < CALLS - 10) {
       switch (upTo(6)) {
         case 0: fault = typeProgram(0, pick("cast;drop;cast;", "cast;cast;cast;cast;drop;", "cast;cast;cast;cast;cast;cast;", "cast;cast;drop;drop;")); break;
         case 1: case 2: fault = ask("run", 0, 1 + upTo(upTo(2) == 0 ? 5 : 40)); break;
