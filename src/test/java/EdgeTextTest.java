@@ -35,34 +35,44 @@ public final class EdgeTextTest {
     x.due("end 399", 399).refused(-1, "feed 1 2 3 4 5").due("end 381", 381).refused(-1, "feed 1 2 3 4 5").due("count 4", 381);
     x.due("end 380", 380).due("feed 1 2 3 4 5", 400);
     // "cut;" is 0x6375743b
-    new Sheet("9: of each number the highest first").make("pot 100 5").make("feed 1668641851 1668641851 1668641851 1668641851 1668641851")
+    new Sheet("9: of each number the highest first").make("pot 100 5")
+        .make("feed 1668641851 1668641851 1668641851 1668641851 1668641851")
         .due("program 0", 5).make("feed 1668641851 538976288 538976288 538976288 1668641851").due("program 0", 2)
         .make("feed 997487971 0 0 0 0").due("program 0", -9).due("place", 0);
     new Sheet("9: bytes above 127").make("pot 100 5", "feed 1668641851 -1 min -16777216 255").due("program 0", -9).due("place", 4)
         .make("feed -1 -1 -1 -1 -1").due("program 0", -9).due("place", 0);
-    new Sheet("9: what is refused leaves the tape as it is").make("pot 100 5").type(FORTY.repeat(10)).refused(-1, "feed 0 0 0 0 0")
+    new Sheet("9: what is refused leaves the tape as it is").make("pot 100 5").type(FORTY.repeat(10))
+        .refused(-1, "feed 0 0 0 0 0")
         .due("program 0", 10).due("place", -1).due("feed 0 0 0 0 0", 20);
   }
 
   private static void promise10() {
-    new Sheet("10: n, 0 to as many as it has").make("feed 1 2 3 4 5").refused(-1, "end 21", "end -1", "end min", "end max", "end 400").still(20, "end 20")
+    new Sheet("10: n, 0 to as many as it has").make("feed 1 2 3 4 5").refused(-1, "end 21", "end -1", "end min", "end max",
+        "end 400").still(20, "end 20")
         .due("end 1", 1).due("count 4", 1).refused(-1, "end 2").due("end 0", 0).due("count 4", 0);
     new Sheet("10: an empty tape").refused(-1, "end 1", "end -1", "end 20").still(0, "end 0");
-    Sheet full = new Sheet("10: a full tape").make("pot 100 5").type(FORTY.repeat(10)).refused(-1, "end 401", "end max").still(400, "end 400");
+    Sheet full = new Sheet("10: a full tape").make("pot 100 5").type(FORTY.repeat(10)).refused(-1, "end 401", "end max")
+        .still(400, "end 400");
     full.due("end 399", 399).refused(-1, "end 400").due("program 0", -9).due("place", 399);
     new Sheet("10: the first n bytes alone").make("pot 100 5").type("cut;cast;cut;cast;cut;").make("end 9").due("program 0", 2);
-    new Sheet("10: what comes then is behind these").make("pot 100 5").type("cut;castxxxxxxxxxxxx").make("end 8", "feed 996373876 996373876 996373876 991961120 0", "end 24")
+    new Sheet("10: what comes then is behind these").make("pot 100 5").type("cut;castxxxxxxxxxxxx")
+        .make("end 8", "feed 996373876 996373876 996373876 991961120 0", "end 24")
         .due("program 0", 5).due("place", -1);
-    new Sheet("10: bytes cut off do not come back").make("pot 100 5").type("cut;cast;").make("end 4").due("end 9", -1).due("program 0", 1);
+    new Sheet("10: bytes cut off do not come back").make("pot 100 5").type("cut;cast;").make("end 4").due("end 9", -1)
+        .due("program 0", 1);
   }
 
   private static void promise11() {
-    new Sheet("11: the tape is empty then").make("pot 100 5").type("cut;").due("program 0", 1).due("count 4", 0).due("program 0", 0)
-        .type("cut").due("program 0", -9).due("count 4", 0).due("program 0", 0).type(TWELVE + "cut;").due("program 0", -8).due("count 4", 0);
-    Sheet own = new Sheet("11: with a FAULT the POT keeps its own").make("lot 9 7 30 50 0", "pot 100 5", "fill 0 0 0 9").program(0, "cast;cast;")
+    new Sheet("11: the tape is empty then").make("pot 100 5").type("cut;").due("program 0", 1).due("count 4", 0)
+        .due("program 0", 0)
+        .type("cut").due("program 0", -9).due("count 4", 0).due("program 0", 0).type(TWELVE + "cut;").due("program 0", -8)
+        .due("count 4", 0);
+    Sheet own = new Sheet("11: with a FAULT the POT keeps its own").make("lot 9 7 30 50 0", "pot 100 5", "fill 0 0 0 9")
+        .program(0, "cast;cast;")
         .type("cast;cast;cast;cast;x").due("program 0", -9).due("about 0 9", 2).make("run 0 1").due("about 0 1", 2);
     own.type(TWELVE + "cast;").due("program 0", -8).due("about 0 9", 2).make("run 0 1").due("about 0 1", 4)
-        .type("if fine<1 and ends<2 and day<3 and thin<4 and made<5:cut;").due("program 0", -8).make("run 0 1").due("about 0 1", 6);
+        .type("if fine<1 and ends<2 and day<3 and thin<4 and made<5:cut;").due("program 0", -8).make("run 0 1")
+        .due("about 0 1", 6);
     new Sheet("11: no such POT, the tape stays").make("pot 100 5").program(0, "cast;cast;").type("cut;cut;cut;")
         .stillBut("place", -1, "program -1", "program 1", "program 4", "program min", "program max")
         .due("count 4", 12).due("about 0 9", 2).due("program 0", 3).due("count 4", 0);
@@ -70,8 +80,10 @@ public final class EdgeTextTest {
         .due("program 0", -9).due("place", 4);
     new Sheet("11: no POT at all").type("cut;").due("program 0", -1).due("count 4", 4).due("pot 10 1", 0).due("program 0", 1);
     new Sheet("11: how many RULES, 0 to 12").make("pot 100 5").reads("", 0, -1).reads("cut;", 1, -1).reads(TWELVE, 12, -1);
-    new Sheet("11: each POT has its own").make("pot 100 5", "pot 100 5", "pot 100 5", "pot 100 5").program(3, "cut;").program(0, "cut;cut;")
-        .due("about 0 9", 2).due("about 1 9", 0).due("about 2 9", 0).due("about 3 9", 1).due("program 0", 0).due("about 0 9", 0).due("about 3 9", 1);
+    new Sheet("11: each POT has its own").make("pot 100 5", "pot 100 5", "pot 100 5", "pot 100 5").program(3, "cut;")
+        .program(0, "cut;cut;")
+        .due("about 0 9", 2).due("about 1 9", 0).due("about 2 9", 0).due("about 3 9", 1).due("program 0", 0)
+        .due("about 0 9", 0).due("about 3 9", 1);
   }
 
   private static void promise12() {
@@ -79,10 +91,13 @@ public final class EdgeTextTest {
     new Sheet("12: NONE without a FAULT").make("pot 100 5").program(0, "x").due("place", 0).program(0, "cut;").due("place", -1)
         .program(0, " x").due("place", 1).make("program 0").due("place", -1);
     new Sheet("12: of the latest program()").make("pot 100 5").program(0, "cut;x").due("place", 4).program(0, "x").due("place", 0)
-        .still(0, "place").type("cut;cut;x").due("place", 0).make("program 0").due("place", 8).make("end 0", "run 0 3").due("place", 8);
-    new Sheet("12: the latest program() was for no such POT: it had no FAULT").make("pot 100 5").program(0, "cut;x").due("place", 4)
+        .still(0, "place").type("cut;cut;x").due("place", 0).make("program 0").due("place", 8).make("end 0", "run 0 3")
+        .due("place", 8);
+    new Sheet("12: the latest program() was for no such POT: it had no FAULT").make("pot 100 5").program(0, "cut;x")
+        .due("place", 4)
         .due("program 1", -1).due("place", -1);
-    new Sheet("12: the end is how many bytes there are").make("pot 100 5").program(0, "cut").due("place", 3).program(0, "cut;" + " ".repeat(393) + "cut")
+    new Sheet("12: the end is how many bytes there are").make("pot 100 5").program(0, "cut").due("place", 3)
+        .program(0, "cut;" + " ".repeat(393) + "cut")
         .due("place", 400);
   }
 
@@ -96,7 +111,8 @@ public final class EdgeTextTest {
     reads("terms 3: a FAULT at the end of 400", " ".repeat(397) + "cut", -9, 400);
     reads("terms 3: a TOKEN of one byte", "x", -9, 0);
     reads("terms 3: each ACT", "cast;drop;find;throw;cut;stop 1;", 6, -1);
-    reads("terms 3: each FIELD and REL", "if fine<1:cut;if ends=1:cut;if basket>1:cut;if lost<1:cut;if made=1:cut;if thin>1:cut;if day<1:cut;", 7, -1);
+    reads("terms 3: each FIELD and REL",
+        "if fine<1:cut;if ends=1:cut;if basket>1:cut;if lost<1:cut;if made=1:cut;if thin>1:cut;if day<1:cut;", 7, -1);
   }
 
   /** Each of the 256 bytes where a letter, a digit, a REL, a colon and a semicolon may stand. */
@@ -108,6 +124,9 @@ public final class EdgeTextTest {
       boolean digit = c >= '0' && c <= '9';
       String which = "terms 3: byte " + b + " ";
       reads(which + "ahead of a word", c + "cut;", blank ? 1 : -9, blank ? -1 : 0);
+      reads(which + "at the front of an ACT", c + "ut;", c == 'c' ? 1 : -9, c == 'c' ? -1 : blank ? 1 : 0);
+      reads(which + "at the front of a FIELD", "if " + c + "nds=1:cut;", c == 'e' ? 1 : -9, c == 'e' ? -1 : blank ? 4 : 3);
+      reads(which + "in a FIELD", "if e" + c + "ds=1:cut;", c == 'n' ? 1 : -9, c == 'n' ? -1 : 3);
       reads(which + "in a word", "cas" + c + ";", c == 't' ? 1 : -9, c == 't' ? -1 : 0);
       reads(which + "behind a word", "cast" + c + ";", blank ? 1 : -9, blank ? -1 : letter ? 0 : c == ';' ? 5 : 4);
       reads(which + "behind a NUMBER", "stop 1" + c + ";", blank || digit ? 1 : -9, blank || digit ? -1 : c == ';' ? 7 : 6);
@@ -137,7 +156,8 @@ public final class EdgeTextTest {
     reads("terms 3: a word too long", "cutt;", -9, 0);
     reads("terms 3: a word too short", "if end<1:cut;", -9, 3);
     reads("terms 3: a word too long", "if days<1:cut;", -9, 3);
-    new Sheet("terms 3: NUMBERS are what their digits say").make("pot 100 5").program(0, "stop 0090;").make("run 0 1").due("about 0 4", 89);
+    new Sheet("terms 3: NUMBERS are what their digits say").make("pot 100 5").program(0, "stop 0090;").make("run 0 1")
+        .due("about 0 4", 89);
   }
 
   private static void blanks() {
@@ -154,7 +174,8 @@ public final class EdgeTextTest {
   }
 
   private static void endOfTheText() {
-    String[] parts = {"if", "if ends", "if ends<", "if ends<3", "if ends<3 and", "if ends<3 and day", "if ends<3 and day=", "if ends<3 and day=1",
+    String[] parts = {"if", "if ends", "if ends<", "if ends<3", "if ends<3 and", "if ends<3 and day", "if ends<3 and day=",
+        "if ends<3 and day=1",
         "if ends<3 and day=1:", "if ends<3 and day=1:stop", "if ends<3 and day=1:stop 5", "cut", "stop", "cut;cut", FOUR};
     for (String part : parts) {
       reads("terms 3: the end: how many bytes there are", part, -9, part.length());

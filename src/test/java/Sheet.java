@@ -227,7 +227,8 @@ final class Sheet {
       }
       all.addAll(List.of("place", "program 0", "place", "about 0 9", "run 0 3", "about 0 3", "about 0 4", "about 0 5", "run 1 3",
           "about 1 3", "cut 0", "cut 1", "grade 0 5 1", "skein 0 10", "mix 1 min max false", "mixed 0", "mix 200 0 100 true",
-          "pay 0 0 0", "pay 1 0 0", "fault 0 1", "day", "pay 0 0 1", "lot 2 5 30 50 0", "pot 50 5", "feed 1 2 3 4 5", "count 6", "count 9"));
+          "pay 0 0 0", "pay 1 0 0", "fault 0 1", "day", "pay 0 0 1", "lot 2 5 30 50 0", "pot 50 5", "feed 1 2 3 4 5", "count 6",
+          "count 9"));
       return all;
     }
   }
