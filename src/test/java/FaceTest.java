@@ -87,16 +87,19 @@ public final class FaceTest {
 
   private static void words() throws IOException {
     String text = source().replaceAll("(?s)/\\*.*?\\*/", "").replaceAll("//[^\n]*", "").replaceAll("\"[^\"\n]*\"", "\"\"");
-    List<String> refused = List.of("(?m)^(?!\\s*(case|default)\\b).*->", "::", "\\bfinally\\b", "\\bsynchronized\\b", "\\bassert\\b", "\\w+Exact\\b", "\\bRandom\\b",
-        "\\bThread\\b", "\\bSystem\\.(?!arraycopy\\b)", "\\bpackage\\b", "\"\" *\\+", "\\+ *\"\"", "\\bprotected\\b", "\\bgetMessage\\b", "\\bprintln?\\b",
-        "catch *\\((Throwable|Error|Exception|NullPointerException|ArrayIndexOutOfBoundsException|ClassCastException|NegativeArraySizeException|ArrayStoreException)\\b");
+    List<String> refused = List.of("->", "::", "\\btry\\b", "\\bcatch\\b", "\\bfinally\\b", "\\bsynchronized\\b", "\\bassert\\b",
+        "\\bExact\\b", "\\bRandom\\b", "\\bThread\\b", "\\bSystem\\.(?!arraycopy\\b)", "\\bMath\\.(?!max\\b|min\\b|abs\\b)", "\\bpackage\\b",
+        "\\bdouble\\b", "\\bfloat\\b", "\"\" *\\+", "\\+ *\"\"", "\\bprotected\\b", "\\bvar\\b");
     for (String r : refused) {
       Matcher m = Pattern.compile(r).matcher(text);
       CHECK.due("the source has " + r, m.find(), false);
     }
-    Matcher thrown = Pattern.compile("\\bthrow\\b(?! new (IllegalStateException|IllegalArgumentException|IndexOutOfBoundsException|ArithmeticException"
-        + "|UnsupportedOperationException|NoSuchElementException|RuntimeException)\\((\"\")?\\);)").matcher(text);
-    CHECK.due("a throw outside rule 6", thrown.find(), false);
+    Matcher thrown = Pattern.compile("throw new (\\w+)\\(").matcher(text);
+    Set<String> all = new TreeSet<>();
+    while (thrown.find()) {
+      all.add(thrown.group(1));
+    }
+    CHECK.due("what is thrown: " + all, all.equals(Set.of("IndexOutOfBoundsException", "NoSuchElementException")), true);
   }
 
   private static void imports() throws IOException {
@@ -105,8 +108,7 @@ public final class FaceTest {
     while (m.find()) {
       all.add(m.group(1));
     }
-    CHECK.due("imports " + all, Set.of("java.util.Arrays", "java.util.ArrayList", "java.util.List", "java.util.Iterator",
-        "java.util.NoSuchElementException").containsAll(all), true);
+    CHECK.due("imports " + all, Set.of("java.util.Arrays", "java.util.NoSuchElementException").containsAll(all), true);
   }
 
   /** A method's body ends at the brace that stands as far in as its head. */
@@ -117,6 +119,6 @@ public final class FaceTest {
       found++;
       CHECK.due("lines of " + m.group().split("\n")[0].trim(), m.group(2).split("\n").length <= 58, true);
     }
-    CHECK.due("methods found", found >= FACE.size(), true);
+    CHECK.due("methods found", found > 80, true);
   }
 }

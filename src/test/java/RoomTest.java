@@ -3,7 +3,7 @@ import java.lang.management.ManagementFactory;
 /** Nothing is ever given back in the room of a run, 7.3 million fields and elements: the dearest runs must make far less. */
 public final class RoomTest {
   private static final Check CHECK = new Check();
-  private static final long MOST_BYTES = 10_000_000;
+  private static final long MOST_BYTES = 2_000_000;
 
   public static void main(String[] args) {
     drawAll();
@@ -18,7 +18,7 @@ public final class RoomTest {
     before = allocated();
     mixAndGrade(x);
     made = allocated() - before;
-    CHECK.due("bytes made by 400 mixes and gradings: " + made, made < MOST_BYTES, true);
+    CHECK.due("bytes made by 400 mixes and gradings: " + made, made < 10_000, true);
     CHECK.end();
   }
 
