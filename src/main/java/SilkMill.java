@@ -495,7 +495,8 @@ public final class SilkMill {
     private int silkThatGrows() {
         int sum = 0;
         for (int p = 0; p < potsMade; p++) {
-            sum += pots[p].strand.silk;
+            Pot pot = potAt(p);
+            sum += pot == null ? 0 : pot.strand.silk;
         }
         return sum;
     }
@@ -764,6 +765,10 @@ public final class SilkMill {
             least = low;
             greatest = high;
             slips = jumps;
+        }
+
+        boolean isOf(int pot, int day) {
+            return potNumber == pot && dayCut == day;
         }
     }
 
@@ -1326,8 +1331,8 @@ public final class SilkMill {
         int mixFor(int w, int low, int high, boolean sell) {
             mixer.beginFor(w);
             for (int k = 0; k < kept; k++) {
-                Skein s = skeins[k];
-                if (!s.sold && s.least >= low && s.greatest <= high) {
+                Skein s = skeinAt(k);
+                if (s != null && !s.sold && s.least >= low && s.greatest <= high) {
                     mixer.offer(k, s.strand.silk, priceOf(s));
                 }
             }
@@ -1340,10 +1345,10 @@ public final class SilkMill {
 
         private void markMix(boolean sell) {
             for (int k = 0; k < kept; k++) {
-                boolean chosen = mixer.isChosen(k);
-                skeins[k].inLatestMix = chosen;
-                if (chosen && sell) {
-                    skeins[k].sold = true;
+                Skein s = skeinAt(k);
+                if (s != null) {
+                    s.inLatestMix = mixer.isChosen(k);
+                    s.sold = s.sold || s.inLatestMix && sell;
                 }
             }
         }
@@ -1362,21 +1367,18 @@ public final class SilkMill {
         int payFor(int p, int dayCut, int dayKnown) {
             int sum = 0;
             for (int k = 0; k < kept; k++) {
-                if (isOf(k, p, dayCut)) {
-                    sum += priceOf(skeins[k]);
+                Skein s = skeinAt(k);
+                if (s != null && s.isOf(p, dayCut)) {
+                    sum += priceOf(s);
                 }
             }
             for (int f = 0; f < faults; f++) {
-                if (faultDays[f] <= dayKnown && isOf(faultSkeins[f], p, dayCut)) {
+                Skein s = skeinAt(faultSkeins[f]);
+                if (s != null && s.isOf(p, dayCut) && faultDays[f] <= dayKnown) {
                     sum -= faultAmounts[f];
                 }
             }
             return sum;
-        }
-
-        private boolean isOf(int k, int p, int dayCut) {
-            Skein s = skeinAt(k);
-            return s != null && s.potNumber == p && s.dayCut == dayCut;
         }
     }
 

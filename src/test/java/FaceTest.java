@@ -25,6 +25,9 @@ public final class FaceTest {
       "int mix(int,int,int,boolean)", "boolean mixed(int)", "int day()", "boolean fault(int,int)", "int pay(int,int,int)",
       "int count(int)"));
 
+  /** A member of what an array holds, with no test against null between (rule 7). */
+  private static final String UNTESTED = "\\]\\s*\\.";
+
   public static void main(String[] args) throws IOException {
     publicFace();
     membersOfClasses();
@@ -89,7 +92,7 @@ public final class FaceTest {
     String text = source().replaceAll("(?s)/\\*.*?\\*/", "").replaceAll("//[^\n]*", "").replaceAll("\"[^\"\n]*\"", "\"\"");
     List<String> refused = List.of("->", "::", "\\btry\\b", "\\bcatch\\b", "\\bfinally\\b", "\\bsynchronized\\b", "\\bassert\\b",
         "\\bExact\\b", "\\bRandom\\b", "\\bThread\\b", "\\bSystem\\.(?!arraycopy\\b)", "\\bMath\\.(?!max\\b|min\\b|abs\\b)", "\\bpackage\\b",
-        "\\bdouble\\b", "\\bfloat\\b", "\"\" *\\+", "\\+ *\"\"", "\\bprotected\\b", "\\bvar\\b");
+        "\\bdouble\\b", "\\bfloat\\b", "\"\" *\\+", "\\+ *\"\"", "\\bprotected\\b", "\\bvar\\b", UNTESTED);
     for (String r : refused) {
       Matcher m = Pattern.compile(r).matcher(text);
       CHECK.due("the source has " + r, m.find(), false);
